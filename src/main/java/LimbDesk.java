@@ -127,7 +127,8 @@ public final class LimbDesk {
     }
 
     public int shift(int to, int a, int by) throws IllegalArgumentException, ArithmeticException {
-        needRegisters(to, a, a);
+        needRegister(to);
+        needRegister(a);
         if (by < -MOST_SHIFT || by > MOST_SHIFT) {
             throw new IllegalArgumentException("shifted too far");
         }
@@ -154,7 +155,8 @@ public final class LimbDesk {
     }
 
     public int power(int to, int a, int n) throws IllegalArgumentException, ArithmeticException {
-        needRegisters(to, a, a);
+        needRegister(to);
+        needRegister(a);
         if (n < 0) {
             throw new IllegalArgumentException("a power below 0");
         }
@@ -188,7 +190,8 @@ public final class LimbDesk {
     }
 
     public int compare(int a, int b) throws IllegalArgumentException {
-        needRegisters(a, b, b);
+        needRegister(a);
+        needRegister(b);
         return registers[a].orderTo(registers[b]);
     }
 
@@ -658,7 +661,7 @@ public final class LimbDesk {
         }
     }
 
-    /** The line. */
+    /** The line. Letters behind count are left over, and written again before they are read. */
     private static final class Letters {
         private static final String DIGITS = "0123456789abcdefghijklmnopqrstuvwxyz";
         private static final int LOWEST = 32;

@@ -1,4 +1,5 @@
 import java.math.BigInteger;
+import java.util.function.IntToLongFunction;
 
 /** What the tests share: counted complaints, and whole numbers carried in and out of a desk. */
 final class Check {
@@ -48,7 +49,7 @@ final class Check {
         due("what " + call + " throws", got, want.getSimpleName());
     }
 
-    static void refusesRegisters(LimbDesk desk, String call, java.util.function.IntToLongFunction run) {
+    static void refusesRegisters(LimbDesk desk, String call, IntToLongFunction run) {
         for (int r : new int[] {-1, 16, 17, Integer.MIN_VALUE, Integer.MAX_VALUE}) {
             refuses(desk, call + " with register " + r, IllegalArgumentException.class, () -> run.applyAsLong(r));
         }
@@ -93,10 +94,6 @@ final class Check {
     static void put(LimbDesk desk, int r, BigInteger v) {
         type(desk, v.toString(36));
         desk.read(r, 36);
-    }
-
-    static void put(LimbDesk desk, int r, long v) {
-        desk.set(r, v);
     }
 
     /** Overwrites the line. */
