@@ -349,7 +349,8 @@ public final class LimbDesk {
         }
 
         boolean fitsLong() {
-            return countBits() < 64 || (below && countBits() == 64 && lowestBits() == Long.MIN_VALUE);
+            // Of 64 bits only the lowest long does: what is lower still wraps round to above 0.
+            return countBits() < 64 || (below && countBits() == 64 && lowestBits() < 0);
         }
 
         long lowestBits() {

@@ -1,110 +1,69 @@
 import java.math.BigInteger;
-import java.util.function.IntToLongFunction;
 
-/** What the tests share: counted complaints, and whole numbers carried in and out of a desk. */
+/** What the tests share: sentences of the document with a test each, and complaints that are counted. */
 final class Check {
     static final BigInteger ONE = BigInteger.ONE;
-    static final BigInteger MOST = ONE.shiftLeft(2048).subtract(ONE);
+    /** The greatest number of 2048 BITS. */
+    static final BigInteger MOST = twoTo(2048).subtract(ONE);
+    static final int[] NO_REGISTERS = {-1, 16, 17, -16, 32, 256, Integer.MIN_VALUE, Integer.MAX_VALUE};
 
-    interface Call {
-        long run();
-    }
+    static final Class<IllegalArgumentException> ILLEGAL = IllegalArgumentException.class;
+    static final Class<ArithmeticException> ARITHMETIC = ArithmeticException.class;
+    static final Class<IndexOutOfBoundsException> BOUNDS = IndexOutOfBoundsException.class;
 
-    private static int wrong = 0;
+    private static String sentence = "";
+    private static int sentences;
+    private static int checks;
+    private static int wrong;
 
     private Check() {
     }
 
-    static void due(String call, long got, long want) {
+    /** The words are told with each complaint, so that it says what is broken. */
+    static void sentence(String words, Runnable test) {
+        sentences++;
+        sentence = words;
+        int before = checks;
+        try {
+            test.run();
+        } catch (RuntimeException e) {
+            complain("its test ended with " + e);
+        }
+        if (checks == before) {
+            complain("its test looked at nothing");
+        }
+        sentence = "";
+    }
+
+    static void due(String what, long got, long want) {
+        checks++;
         if (got != want) {
-            complain(call + " answered " + got + ", due is " + want);
+            complain(what + " is " + got + ", due is " + want);
         }
     }
 
-    static void due(String call, String got, String want) {
+    static void due(String what, String got, String want) {
+        checks++;
         if (!got.equals(want)) {
-            complain(call + " gave " + got + ", due is " + want);
+            complain(what + " is " + got + ", due is " + want);
         }
     }
 
     static void complain(String text) {
         wrong++;
-        System.out.println(text);
+        System.out.println(sentence.isEmpty() ? text : "\"" + sentence + "\" is broken: " + text);
     }
 
-    /** The call must throw just this and leave all registers and the line as they were. */
-    static void refuses(LimbDesk desk, String call, Class<? extends RuntimeException> want, Call run) {
-        String before = state(desk);
-        throwsOnly(call, want, run);
-        due("the state after " + call, state(desk), before);
-    }
-
-    static void throwsOnly(String call, Class<? extends RuntimeException> want, Call run) {
-        String got = "nothing";
-        try {
-            run.run();
-        } catch (RuntimeException e) {
-            got = e.getClass().getSimpleName();
-        }
-        due("what " + call + " throws", got, want.getSimpleName());
-    }
-
-    static void refusesRegisters(LimbDesk desk, String call, IntToLongFunction run) {
-        for (int r : new int[] {-1, 16, 17, Integer.MIN_VALUE, Integer.MAX_VALUE}) {
-            refuses(desk, call + " with register " + r, IllegalArgumentException.class, () -> run.applyAsLong(r));
+    static void finish(String name) {
+        String count = sentences == 0 ? "" : sentences + " sentences, ";
+        System.out.println(name + ": " + count + (wrong == 0 ? "all as due" : wrong + " not as due"));
+        if (wrong != 0) {
+            System.exit(1);
         }
     }
 
-    static String state(LimbDesk desk) {
-        StringBuilder text = new StringBuilder();
-        for (int r = 0; r < 16; r++) {
-            text.append(desk.folded(r)).append('/').append(desk.size(r)).append(' ');
-        }
-        return text.append('[').append(lineOf(desk)).append(']').toString();
-    }
-
-    static String lineOf(LimbDesk desk) {
-        StringBuilder text = new StringBuilder();
-        for (int k = 0; k < 2200; k++) {
-            try {
-                text.append((char) desk.letter(k));
-            } catch (IndexOutOfBoundsException e) {
-                return text.toString();
-            }
-        }
-        return text.append("..").toString();
-    }
-
-    /** The octets of up to eight letters, for line(). */
-    static long octets(String text) {
-        long w = 0;
-        for (int k = Math.min(8, text.length()) - 1; k >= 0; k--) {
-            w = (w << 8) | text.charAt(k);
-        }
-        return w;
-    }
-
-    static void type(LimbDesk desk, String text) {
-        for (int k = 0; k < text.length(); k += 8) {
-            desk.line(octets(text.substring(k, Math.min(k + 8, text.length()))));
-        }
-    }
-
-    /** Only for a desk whose line is empty. */
-    static void put(LimbDesk desk, int r, BigInteger v) {
-        type(desk, v.toString(36));
-        desk.read(r, 36);
-    }
-
-    /** Overwrites the line. */
-    static BigInteger get(LimbDesk desk, int r) {
-        desk.show(r, 36);
-        return new BigInteger(lineOf(desk), 36);
-    }
-
-    /** Overwrites the line. */
-    static void holds(LimbDesk desk, String call, int r, BigInteger want) {
-        due("register " + r + " after " + call, get(desk, r).toString(), want.toString());
+    static BigInteger big(long v) {
+        return BigInteger.valueOf(v);
     }
 
     static BigInteger big(String text) {
@@ -115,10 +74,20 @@ final class Check {
         return ONE.shiftLeft(n);
     }
 
-    static void finish(String name) {
-        System.out.println(name + ": " + (wrong == 0 ? "all as due" : wrong + " not as due"));
-        if (wrong != 0) {
-            System.exit(1);
+    static int bits(BigInteger v) {
+        return v.abs().bitLength();
+    }
+
+    static boolean fits(BigInteger v) {
+        return bits(v) <= 2048;
+    }
+
+    /** The octets of up to eight letters, for line(). */
+    static long octets(String text) {
+        long w = 0;
+        for (int k = Math.min(8, text.length()) - 1; k >= 0; k--) {
+            w = (w << 8) | text.charAt(k);
         }
+        return w;
     }
 }

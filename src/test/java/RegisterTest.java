@@ -1,152 +1,255 @@
 import java.math.BigInteger;
 
-/** Promises 1, 2 and 13 to 17: a new object, what is set, and what is asked of one register. */
+/** Promises 1, 2 and 13 to 17, sentence by sentence: a new object, what is set, and what is asked of registers. */
 public final class RegisterTest {
-    private static final BigInteger PRIME = Check.twoTo(61).subtract(Check.ONE);
+    private static final BigInteger MOST = Check.MOST;
+    private static final BigInteger LEAST = MOST.negate();
+    private static final BigInteger ONE = Check.ONE;
+    private static final BigInteger PRIME = Check.twoTo(61).subtract(ONE);
 
     public static void main(String[] args) {
-        promise1NewObject();
-        promise2Set();
-        promise13Compare();
-        promise14Small();
-        promise15Low();
-        promise16Folded();
-        promise17Size();
+        Check.sentence("Promise 1: All REGISTERS 0", RegisterTest::newRegisters);
+        Check.sentence("Promise 1: an empty LINE", RegisterTest::newLine);
+        Check.sentence("Promise 1: A new object (and not another's)", RegisterTest::objectsApart);
+        Check.sentence("Promise 2: REGISTER r is v", RegisterTest::setValue);
+        Check.sentence("Promise 2: how many BITS it had", RegisterTest::setTellsBitsBefore);
+        Check.sentence("Promise 2: IllegalArgumentException (r)", RegisterTest::setNoRegister);
+        Check.sentence("Promise 13: -1, 0, 1: a is less than b, the same, greater", RegisterTest::compareAll);
+        Check.sentence("Promise 13: the same", RegisterTest::compareTheSame);
+        Check.sentence("Promise 13: IllegalArgumentException (a, b)", RegisterTest::compareNoRegister);
+        Check.sentence("Promise 14: REGISTER r, if it fits into a long", RegisterTest::smallFits);
+        Check.sentence("Promise 14: ArithmeticException: it does not", RegisterTest::smallDoesNotFit);
+        Check.sentence("Promise 14: IllegalArgumentException (r)", RegisterTest::smallNoRegister);
+        Check.sentence("Promise 15: Its lowest 64 bits", RegisterTest::lowOfZeroAndAbove);
+        Check.sentence("Promise 15: (as in bits())", RegisterTest::lowBelowZero);
+        Check.sentence("Promise 15: IllegalArgumentException (r)", RegisterTest::lowNoRegister);
+        Check.sentence("Promise 16: What is left of it without its sign, divided by 2 ** 61 - 1", RegisterTest::foldedAbove);
+        Check.sentence("Promise 16: minus that if it is below 0", RegisterTest::foldedBelow);
+        Check.sentence("Promise 16: IllegalArgumentException (r)", RegisterTest::foldedNoRegister);
+        Check.sentence("Promise 17: How many BITS REGISTER r has", RegisterTest::sizes);
+        Check.sentence("Promise 17: IllegalArgumentException (r)", RegisterTest::sizeNoRegister);
         Check.finish("RegisterTest");
     }
 
-    private static void promise1NewObject() {
-        LimbDesk desk = new LimbDesk();
-        for (int r = 0; r < 16; r++) {
-            Check.due("small(" + r + ") of a new object", desk.small(r), 0);
-            Check.due("size(" + r + ") of a new object", desk.size(r), 0);
+    private static BigInteger big(long v) {
+        return Check.big(v);
+    }
+
+    private static void newRegisters() {
+        Run run = new Run();
+        for (int k = 0; k < 16; k++) {
+            int r = k;
+            run.gives("small(" + r + ")", 0, d -> d.small(r));
+            run.gives("size(" + r + ")", 0, d -> d.size(r));
+            run.gives("compare(" + r + ", 0)", 0, d -> d.compare(r, 0));
+            new Run().gives("show(" + r + ", 10)", 1, d -> d.show(r, 10)).lineIs("0");
         }
-        Check.throwsOnly("letter(0) of a new object", IndexOutOfBoundsException.class, () -> desk.letter(0));
-        Check.due("line() of a new object", desk.line('7'), 1);
-        desk.set(3, 9);
+    }
+
+    private static void newLine() {
+        new Run().refuses("letter(0)", Check.BOUNDS, d -> d.letter(0));
+        new Run().lineIs("").gives("line of one letter", 1, d -> d.line('7')).lineIs("7");
+        new Run().refusesRead("read(0, 10) of it", Check.ILLEGAL, d -> d.read(0, 10));
+    }
+
+    private static void objectsApart() {
+        LimbDesk one = new LimbDesk();
+        one.set(3, 9);
+        one.line('x');
         LimbDesk other = new LimbDesk();
-        Check.due("register 3 of another object", other.small(3), 0);
-        Check.due("the line of another object", Check.lineOf(other), "");
+        Check.due("small(3) of the other", other.small(3), 0);
+        Check.due("line of the other", other.line('y'), 1);
+        other.set(3, 4);
+        Check.due("small(3) of the one", one.small(3), 9);
+        Check.due("letter(0) of the one", one.letter(0), 'x');
     }
 
-    private static void promise2Set() {
-        LimbDesk desk = new LimbDesk();
-        long[] values = {1, -1, 0, 5, -8, Integer.MIN_VALUE, 1L << 31, (1L << 31) - 1, 1L << 62, -(1L << 62),
-            Long.MAX_VALUE, Long.MIN_VALUE, Long.MIN_VALUE + 1, 0, 3};
-        long had = 0;
-        for (long v : values) {
-            Check.due("set(4, " + v + ")", desk.set(4, v), BigInteger.valueOf(had).abs().bitLength());
-            Check.due("small(4) after set(4, " + v + ")", desk.small(4), v);
-            had = v;
+    private static final long[] LONGS = {0, 1, -1, 5, -8, 255, 256, Integer.MAX_VALUE, Integer.MIN_VALUE, 1L << 31, -(1L << 31) - 1,
+        1L << 32, (1L << 62) - 1, 1L << 62, -(1L << 62), Long.MAX_VALUE, Long.MAX_VALUE - 1, Long.MIN_VALUE, Long.MIN_VALUE + 1};
+
+    private static void setValue() {
+        for (long v : LONGS) {
+            Run.with(big(3)).makes("set(1, " + v + ")", 2, 1, big(v), d -> d.set(1, v)).gives("small(1)", v, d -> d.small(1));
+            Run.with(LEAST).makes("set(1, " + v + ") over the least", 2048, 1, big(v), d -> d.set(1, v));
         }
-        Check.due("set(15, 1)", desk.set(15, 1), 0);
-        Check.due("set(0, 1)", desk.set(0, 1), 0);
-        Check.put(desk, 0, Check.MOST.negate());
-        Check.due("set(0, 0) of 2048 bits", desk.set(0, 0), 2048);
-        Check.due("set(0, 0) again", desk.set(0, 0), 0);
-        Check.refusesRegisters(desk, "set", r -> desk.set(r, 7));
     }
 
-    private static void promise13Compare() {
-        LimbDesk desk = new LimbDesk();
-        BigInteger[] rising = {Check.MOST.negate(), Check.MOST.negate().add(Check.ONE), Check.twoTo(1000).negate(),
-            Check.twoTo(62).negate(), Check.big("-2"), Check.big("-1"), Check.big("0"), Check.big("1"),
-            Check.twoTo(31).subtract(Check.ONE), Check.twoTo(31), Check.twoTo(62), Check.twoTo(1000),
-            Check.MOST.subtract(Check.twoTo(1999)), Check.MOST.subtract(Check.ONE), Check.MOST};
-        for (int r = 0; r < rising.length; r++) {
-            Check.put(desk, r, rising[r]);
-        }
-        for (int a = 0; a < rising.length; a++) {
-            for (int b = 0; b < rising.length; b++) {
-                Check.due("compare(" + a + ", " + b + ")", desk.compare(a, b), Integer.compare(a, b));
+    private static void setTellsBitsBefore() {
+        for (long had : LONGS) {
+            for (long v : LONGS) {
+                Run.with(big(had)).gives("set(1, " + v + ") over " + had, Check.bits(big(had)), d -> d.set(1, v));
             }
         }
-        Check.put(desk, 15, Check.MOST);
-        Check.due("compare of the same in two registers", desk.compare(14, 15), 0);
-        Check.refusesRegisters(desk, "compare", r -> desk.compare(r, 0));
-        Check.refusesRegisters(desk, "compare", r -> desk.compare(0, r));
+        new Run().gives("set(0, 77) of a new object", 0, d -> d.set(0, 77));
+        Run.with(MOST).gives("set(1, 1) over the most", 2048, d -> d.set(1, 1)).gives("set(1, 0)", 1, d -> d.set(1, 0));
+        Run.with(Check.twoTo(1000).negate()).gives("set(1, 1) over -(2 ** 1000)", 1001, d -> d.set(1, 1));
     }
 
-    private static void promise14Small() {
-        LimbDesk desk = new LimbDesk();
-        BigInteger least = BigInteger.valueOf(Long.MIN_VALUE);
-        BigInteger most = BigInteger.valueOf(Long.MAX_VALUE);
-        for (String text : new String[] {"0", "1", "-1", "2147483647", "2147483648", "-4294967296", "4611686018427387904"}) {
-            Check.put(desk, 2, Check.big(text));
-            Check.due("small of " + text, desk.small(2), Long.parseLong(text));
+    private static void setNoRegister() {
+        for (int no : Check.NO_REGISTERS) {
+            Run.with(MOST).refuses("set(" + no + ", 7)", Check.ILLEGAL, d -> d.set(no, 7));
         }
-        Check.put(desk, 2, least);
-        Check.due("small of the least", desk.small(2), Long.MIN_VALUE);
-        Check.put(desk, 2, most);
-        Check.due("small of the most", desk.small(2), Long.MAX_VALUE);
-        BigInteger[] none = {least.subtract(Check.ONE), most.add(Check.ONE), Check.twoTo(64).negate(), Check.twoTo(64),
-            Check.twoTo(64).subtract(Check.ONE), Check.ONE.subtract(Check.twoTo(64)), Check.MOST, Check.MOST.negate(),
-            Check.twoTo(128), least.subtract(Check.twoTo(100))};
+    }
+
+    private static final BigInteger[] RISING = {LEAST, LEAST.add(ONE), LEAST.add(Check.twoTo(1999)), Check.twoTo(1000).negate(),
+        Check.twoTo(62).negate(), big(-2), big(-1), big(0), ONE, big(2), Check.twoTo(31).subtract(ONE), Check.twoTo(31),
+        Check.twoTo(62).subtract(ONE), Check.twoTo(62), Check.twoTo(63), Check.twoTo(64), Check.twoTo(1000),
+        Check.twoTo(1000).add(ONE), MOST.subtract(Check.twoTo(1999)), MOST.subtract(ONE), MOST};
+
+    private static void compareAll() {
+        for (int a = 0; a < RISING.length; a++) {
+            for (int b = 0; b < RISING.length; b++) {
+                String name = "compare of " + RISING[a] + " and " + RISING[b];
+                Run.with(RISING[a], RISING[b]).asks(name, Integer.compare(a, b), d -> d.compare(1, 2));
+            }
+        }
+    }
+
+    private static void compareTheSame() {
+        for (BigInteger v : RISING) {
+            Run.with(v).asks("compare(1, 1) of " + v, 0, d -> d.compare(1, 1));
+        }
+        // The same number by two ways, with what is left of a greater one behind it.
+        Run.with(MOST, big(5)).then(d -> d.shift(1, 1, -2045), d -> d.set(3, 2), d -> d.work(0, 2, 2, 3))
+            .asks("compare of 7 and 7", 0, d -> d.compare(1, 2));
+        new Run().type("-0").then(d -> d.read(1, 10)).asks("compare of -0 and 0", 0, d -> d.compare(1, 0));
+    }
+
+    private static void compareNoRegister() {
+        for (int no : Check.NO_REGISTERS) {
+            Run.with(MOST).refuses("compare(" + no + ", 1)", Check.ILLEGAL, d -> d.compare(no, 1));
+            Run.with(MOST).refuses("compare(1, " + no + ")", Check.ILLEGAL, d -> d.compare(1, no));
+            Run.with(MOST).refuses("compare(" + no + ", " + no + ")", Check.ILLEGAL, d -> d.compare(no, no));
+        }
+    }
+
+    private static void smallFits() {
+        for (long v : LONGS) {
+            Run.with(big(v)).asks("small of " + v, v, d -> d.small(1));
+            // Come from a greater number, not by set.
+            Run.with(big(v).shiftLeft(500)).then(d -> d.shift(1, 1, -500)).asks("small of " + v, v, d -> d.small(1));
+        }
+    }
+
+    private static void smallDoesNotFit() {
+        BigInteger[] none = {big(Long.MAX_VALUE).add(ONE), big(Long.MIN_VALUE).subtract(ONE), big(Long.MAX_VALUE).add(big(2)),
+            big(Long.MIN_VALUE).subtract(big(2)), Check.twoTo(64).subtract(ONE), ONE.subtract(Check.twoTo(64)), Check.twoTo(64),
+            Check.twoTo(64).negate(), Check.twoTo(64).add(ONE), Check.twoTo(63).add(Check.twoTo(62)).negate(), Check.twoTo(128),
+            big(Long.MIN_VALUE).subtract(Check.twoTo(100)), Check.twoTo(93), MOST, LEAST};
         for (BigInteger v : none) {
-            Check.put(desk, 2, v);
-            Check.refuses(desk, "small of " + v, ArithmeticException.class, () -> desk.small(2));
+            Run.with(v).refuses("small of " + v, Check.ARITHMETIC, d -> d.small(1));
         }
-        Check.refusesRegisters(desk, "small", r -> desk.small(r));
     }
 
-    private static final String[] NUMBERS = {"0", "1", "-1", "9223372036854775807", "9223372036854775808",
-        "-9223372036854775808", "-9223372036854775809", "18446744073709551615", "18446744073709551616",
-        "-18446744073709551615", "-18446744073709551616", "-18446744073709551617", "2305843009213693950",
-        "2305843009213693951", "2305843009213693952", "-2305843009213693951", "-2305843009213693950",
-        "5316911983139663487615228241121378303", "5316911983139663487615228241121378304",
-        "123456789012345678901234567890123456789", "-123456789012345678901234567890123456789"};
+    private static void smallNoRegister() {
+        for (int no : Check.NO_REGISTERS) {
+            Run.with(MOST).refuses("small(" + no + ")", Check.ILLEGAL, d -> d.small(no));
+        }
+    }
 
-    private static void promise15Low() {
-        LimbDesk desk = new LimbDesk();
+    private static final String[] NUMBERS = {"0", "1", "2147483648", "9223372036854775807", "9223372036854775808",
+        "9223372036854775809", "18446744073709551615", "18446744073709551616", "18446744073709551617", "27670116110564327424",
+        "2305843009213693950", "2305843009213693951", "2305843009213693952", "4611686018427387902", "4611686018427387903",
+        "5316911983139663487615228241121378303", "5316911983139663487615228241121378304", "340282366920938463463374607431768211455",
+        "123456789012345678901234567890123456789"};
+
+    private static void lowIs(BigInteger v) {
+        Run.with(v).asks("low of " + v, v.longValue(), d -> d.low(1));
+    }
+
+    private static void lowOfZeroAndAbove() {
         for (String text : NUMBERS) {
-            Check.put(desk, 9, Check.big(text));
-            Check.due("low of " + text, desk.low(9), Check.big(text).longValue());
+            lowIs(Check.big(text));
         }
-        Check.put(desk, 9, Check.MOST);
-        Check.due("low of the most", desk.low(9), -1);
-        Check.put(desk, 9, Check.MOST.negate());
-        Check.due("low of the least", desk.low(9), 1);
-        Check.put(desk, 9, Check.twoTo(2047).negate());
-        Check.due("low of -(2 ** 2047)", desk.low(9), 0);
-        Check.refusesRegisters(desk, "low", r -> desk.low(r));
+        lowIs(MOST);
+        lowIs(Check.twoTo(2047));
+        for (int n = 1; n < 70; n++) {
+            lowIs(Check.twoTo(n));
+            lowIs(MOST.subtract(Check.twoTo(n)));
+        }
     }
 
-    private static void promise16Folded() {
-        LimbDesk desk = new LimbDesk();
+    private static void lowBelowZero() {
         for (String text : NUMBERS) {
-            foldedIs(desk, Check.big(text));
+            lowIs(Check.big(text).negate());
         }
-        foldedIs(desk, Check.MOST);
-        foldedIs(desk, Check.MOST.negate());
-        foldedIs(desk, PRIME.pow(33));
-        foldedIs(desk, PRIME.pow(33).subtract(Check.ONE));
-        foldedIs(desk, PRIME.pow(33).subtract(Check.ONE).negate());
-        for (int n = 0; n < 2048; n += 61) {
-            foldedIs(new LimbDesk(), Check.twoTo(n).negate());
+        Run.with(LEAST).asks("low of the least", 1, d -> d.low(1));
+        Run.with(Check.twoTo(2047).negate()).asks("low of -(2 ** 2047)", 0, d -> d.low(1));
+        for (int n = 1; n < 70; n++) {
+            lowIs(Check.twoTo(n).negate());
+            lowIs(LEAST.add(Check.twoTo(n)));
+            // 64 bits alone: and with 2 ** 64 - 1, and what is above its half is below 0 as a long.
+            BigInteger v = LEAST.add(Check.twoTo(n));
+            Run.with(v, Check.twoTo(64).subtract(ONE)).then(d -> d.bits(0, 3, 1, 2)).asks("low of the bits", v.longValue(), d -> d.low(3));
         }
-        Check.refusesRegisters(desk, "folded", r -> desk.folded(r));
     }
 
-    private static void foldedIs(LimbDesk desk, BigInteger v) {
-        Check.put(desk, 1, v);
-        // BigInteger.remainder cuts towards 0, as folded does.
-        Check.due("folded of " + v, desk.folded(1), v.remainder(PRIME).longValue());
+    private static void lowNoRegister() {
+        for (int no : Check.NO_REGISTERS) {
+            Run.with(MOST).refuses("low(" + no + ")", Check.ILLEGAL, d -> d.low(no));
+        }
     }
 
-    private static void promise17Size() {
-        for (int n = 0; n < 2048; n++) {
-            LimbDesk desk = new LimbDesk();
-            desk.set(0, n % 2 == 0 ? 1 : -1);
-            desk.shift(1, 0, n);
-            Check.due("size of +-(2 ** " + n + ")", desk.size(1), n + 1);
-            desk.set(2, n % 2 == 0 ? -1 : 1);
-            desk.work(0, 3, 1, 2);
-            Check.due("size of +-(2 ** " + n + " - 1)", desk.size(3), n);
+    private static void foldedIs(BigInteger v, long want) {
+        Run.with(v).asks("folded of " + v, want, d -> d.folded(1));
+    }
+
+    private static BigInteger[] toFold() {
+        BigInteger[] all = new BigInteger[NUMBERS.length + 2048 / 16 + 4 * 33];
+        int at = 0;
+        for (String text : NUMBERS) {
+            all[at++] = Check.big(text);
         }
-        LimbDesk desk = new LimbDesk();
-        Check.due("size of 0", desk.size(15), 0);
-        Check.put(desk, 15, Check.MOST.negate());
-        Check.due("size of the least", desk.size(15), 2048);
-        Check.refusesRegisters(desk, "size", r -> desk.size(r));
+        for (int n = 0; n < 2048; n += 16) {
+            all[at++] = MOST.shiftRight(n);
+        }
+        for (int n = 1; n <= 33; n++) {
+            all[at++] = PRIME.pow(n);
+            all[at++] = PRIME.pow(n).subtract(ONE);
+            all[at++] = PRIME.pow(n).add(ONE);
+            all[at++] = Check.twoTo(61 * n);
+        }
+        return all;
+    }
+
+    private static void foldedAbove() {
+        for (BigInteger v : toFold()) {
+            foldedIs(v, v.mod(PRIME).longValue());
+        }
+        foldedIs(PRIME, 0);
+        foldedIs(PRIME.subtract(ONE), (1L << 61) - 2);
+        foldedIs(PRIME.add(ONE), 1);
+    }
+
+    private static void foldedBelow() {
+        for (BigInteger v : toFold()) {
+            foldedIs(v.negate(), -v.mod(PRIME).longValue());
+        }
+        foldedIs(PRIME.negate(), 0);
+        foldedIs(ONE.subtract(PRIME), 2 - (1L << 61));
+        foldedIs(big(-1), -1);
+        foldedIs(big(Long.MIN_VALUE), -4);
+    }
+
+    private static void foldedNoRegister() {
+        for (int no : Check.NO_REGISTERS) {
+            Run.with(MOST).refuses("folded(" + no + ")", Check.ILLEGAL, d -> d.folded(no));
+        }
+    }
+
+    private static void sizes() {
+        for (BigInteger v : RISING) {
+            Run.with(v).asks("size of " + v, Check.bits(v), d -> d.size(1));
+        }
+        for (long v : LONGS) {
+            Run.with(big(v)).asks("size of " + v, Check.bits(big(v)), d -> d.size(1));
+        }
+        Run.with(MOST).then(d -> d.set(1, 0)).asks("size of 0 where the most was", 0, d -> d.size(1));
+    }
+
+    private static void sizeNoRegister() {
+        for (int no : Check.NO_REGISTERS) {
+            Run.with(MOST).refuses("size(" + no + ")", Check.ILLEGAL, d -> d.size(no));
+        }
     }
 }

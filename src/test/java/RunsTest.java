@@ -7,7 +7,8 @@ import java.util.Arrays;
  */
 public final class RunsTest {
     private static final int RUNS = 3000;
-    private static final int MOST_CALLS = 400;
+    /** At the end of a run, so many questions are asked about what is there. */
+    private static final int QUESTIONS = 3 * 16 + 50;
     private static final BigInteger PRIME = Check.twoTo(61).subtract(Check.ONE);
     private static final long[] EDGES = {0, 1, -1, 2, -2, 10, Integer.MAX_VALUE, Integer.MIN_VALUE, 1L << 31, 1L << 32,
         (1L << 62) - 1, 1L << 62, Long.MAX_VALUE, Long.MIN_VALUE, (1L << 61) - 1, 1 - (1L << 61)};
@@ -35,17 +36,23 @@ public final class RunsTest {
     }
 
     private void go() {
-        int length = 1 + below(MOST_CALLS);
+        int length = 1 + below(Run.MOST_CALLS - QUESTIONS);
         while (calls < length) {
-            step(below(KINDS));
+            step(below(KINDS), length - calls);
         }
-        for (int r = 0; r < 16; r++) {
-            String name = "run " + run + ", at its end, register " + r;
-            Check.due(name + " folded", desk.folded(r), registers[r].remainder(PRIME).longValue());
-            Check.due(name + " low", desk.low(r), registers[r].longValue());
-            Check.due(name + " size", desk.size(r), bits(registers[r]));
+        for (int k = 0; k < 16; k++) {
+            int r = k;
+            due("folded(" + r + ")", registers[r].remainder(PRIME).toString(), d -> d.folded(r));
+            due("low(" + r + ")", Long.toString(registers[r].longValue()), d -> d.low(r));
+            due("size(" + r + ")", Integer.toString(bits(registers[r])), d -> d.size(r));
         }
-        Check.due("run " + run + ", the line at its end", Check.lineOf(desk), line.toString());
+        letter(line.length());
+        for (int k = 1; k < 50; k++) {
+            letter(line.length() < 50 ? k - 1 : below(line.length()));
+        }
+        if (calls > Run.MOST_CALLS) {
+            Check.complain("run " + run + " makes more calls than an object is for");
+        }
     }
 
     private long next() {
@@ -75,7 +82,7 @@ public final class RunsTest {
         return chance == 0 ? EDGES[below(EDGES.length)] : chance == 1 ? below(200) - 100 : next() >> below(64);
     }
 
-    private void step(int kind) {
+    private void step(int kind, int room) {
         switch (kind) {
             case 0 -> set(register(), value());
             case 1 -> line(below(8) == 0 ? next() : Check.octets(digits(1 + below(8), base())));
@@ -89,8 +96,8 @@ public final class RunsTest {
             case 11 -> power(register(), register(), below(3) == 0 ? below(2100) - 4 : below(20));
             case 12 -> residue(register(), register(), register(), register());
             case 13 -> compare(register(), register());
-            case 14 -> askOne(register());
-            default -> typeNumber(register());
+            case 14 -> askOne(below(4), register());
+            default -> typeNumber(register(), room);
         }
     }
 
@@ -108,11 +115,15 @@ public final class RunsTest {
         return text.toString();
     }
 
-    /** A long number, come by the line as a user would bring it. */
-    private void typeNumber(int r) {
+    /** A long number, come by the line as a user would bring it, if there is room for all its calls. */
+    private void typeNumber(int r, int room) {
         int base = 2 + below(35);
-        read(0, 99);
         String text = (below(2) == 0 ? "-" : "") + digits(1 + below(below(10) == 0 ? 2000 : 200), base);
+        if (text.length() / 8 + 3 > room) {
+            set(r, value());
+            return;
+        }
+        read(0, 99);
         for (int k = 0; k < text.length(); k += 8) {
             line(Check.octets(text.substring(k, Math.min(text.length(), k + 8))));
         }
@@ -120,15 +131,9 @@ public final class RunsTest {
     }
 
     /** What is due: an answer, or the name of an exception. */
-    private void due(String call, String want, Check.Call asked) {
+    private void due(String call, String want, Run.Call asked) {
         calls++;
-        String got;
-        try {
-            got = Long.toString(asked.run());
-        } catch (RuntimeException e) {
-            got = e.getClass().getSimpleName();
-        }
-        Check.due("run " + run + ", call " + calls + ", " + call, got, want);
+        Check.due("run " + run + ", call " + calls + ", " + call, Run.answer(desk, asked), want);
     }
 
     private static final String ILLEGAL = "IllegalArgumentException";
@@ -174,7 +179,7 @@ public final class RunsTest {
             want = Integer.toString(bits(registers[r]));
             registers[r] = BigInteger.valueOf(v);
         }
-        due("set(" + r + ", " + v + ")", want, () -> desk.set(r, v));
+        due("set(" + r + ", " + v + ")", want, d -> d.set(r, v));
     }
 
     private void line(long w) {
@@ -196,7 +201,7 @@ public final class RunsTest {
         } else {
             want = Integer.toString(line.append(more).length());
         }
-        due("line(" + w + ")", want, () -> desk.line(w));
+        due("line(" + w + ")", want, d -> d.line(w));
     }
 
     private void read(int r, int base) {
@@ -212,7 +217,7 @@ public final class RunsTest {
                 want = ILLEGAL;
             }
         }
-        due("read(" + r + ", " + base + ") of " + text, want, () -> desk.read(r, base));
+        due("read(" + r + ", " + base + ") of " + text, want, d -> d.read(r, base));
     }
 
     private void show(int r, int base) {
@@ -222,12 +227,12 @@ public final class RunsTest {
             line.append(registers[r].toString(base));
             want = Integer.toString(line.length());
         }
-        due("show(" + r + ", " + base + ")", want, () -> desk.show(r, base));
+        due("show(" + r + ", " + base + ")", want, d -> d.show(r, base));
     }
 
     private void letter(int k) {
         String want = k < 0 || k >= line.length() ? BOUNDS : Integer.toString(line.charAt(k));
-        due("letter(" + k + ")", want, () -> desk.letter(k));
+        due("letter(" + k + ")", want, d -> d.letter(k));
     }
 
     private void work(int what, int to, int a, int b) {
@@ -237,7 +242,7 @@ public final class RunsTest {
             BigInteger y = registers[b];
             want = keepSign(to, what == 0 ? x.add(y) : what == 1 ? x.subtract(y) : x.multiply(y));
         }
-        due("work(" + what + ", " + to + ", " + a + ", " + b + ")", want, () -> desk.work(what, to, a, b));
+        due("work(" + what + ", " + to + ", " + a + ", " + b + ")", want, d -> d.work(what, to, a, b));
     }
 
     private void divide(boolean down, int to, int rest, int a, int b) {
@@ -245,7 +250,7 @@ public final class RunsTest {
         if (there(to, rest, a, b) && to != rest) {
             want = registers[b].signum() == 0 ? ARITHMETIC : divided(down, to, rest, registers[a], registers[b]);
         }
-        due("divide(" + down + ", " + to + ", " + rest + ", " + a + ", " + b + ")", want, () -> desk.divide(down, to, rest, a, b));
+        due("divide(" + down + ", " + to + ", " + rest + ", " + a + ", " + b + ")", want, d -> d.divide(down, to, rest, a, b));
     }
 
     private String divided(boolean down, int to, int rest, BigInteger x, BigInteger y) {
@@ -257,7 +262,7 @@ public final class RunsTest {
 
     private void shift(int to, int a, int by) {
         String want = there(to, a) && by >= -4000 && by <= 4000 ? keepBits(to, registers[a].shiftLeft(by)) : ILLEGAL;
-        due("shift(" + to + ", " + a + ", " + by + ")", want, () -> desk.shift(to, a, by));
+        due("shift(" + to + ", " + a + ", " + by + ")", want, d -> d.shift(to, a, by));
     }
 
     private void bitwise(int what, int to, int a, int b) {
@@ -267,7 +272,7 @@ public final class RunsTest {
             BigInteger y = registers[b];
             want = keepSign(to, what == 0 ? x.and(y) : what == 1 ? x.or(y) : x.xor(y));
         }
-        due("bits(" + what + ", " + to + ", " + a + ", " + b + ")", want, () -> desk.bits(what, to, a, b));
+        due("bits(" + what + ", " + to + ", " + a + ", " + b + ")", want, d -> d.bits(what, to, a, b));
     }
 
     private void power(int to, int a, int n) {
@@ -276,7 +281,7 @@ public final class RunsTest {
             boolean tooBig = (long) (bits(registers[a]) - 1) * n >= 2048;
             want = tooBig ? ARITHMETIC : keepBits(to, registers[a].pow(n));
         }
-        due("power(" + to + ", " + a + ", " + n + ")", want, () -> desk.power(to, a, n));
+        due("power(" + to + ", " + a + ", " + n + ")", want, d -> d.power(to, a, n));
     }
 
     private void residue(int to, int a, int b, int m) {
@@ -290,26 +295,22 @@ public final class RunsTest {
                 want = keepSign(to, left.signum() != 0 && by.signum() < 0 ? left.add(by) : left);
             }
         }
-        due("residue(" + to + ", " + a + ", " + b + ", " + m + ")", want, () -> desk.residue(to, a, b, m));
+        due("residue(" + to + ", " + a + ", " + b + ", " + m + ")", want, d -> d.residue(to, a, b, m));
     }
 
     private void compare(int a, int b) {
         String want = there(a, b) ? Integer.toString(registers[a].compareTo(registers[b])) : ILLEGAL;
-        due("compare(" + a + ", " + b + ")", want, () -> desk.compare(a, b));
+        due("compare(" + a + ", " + b + ")", want, d -> d.compare(a, b));
     }
 
-    private void askOne(int r) {
-        if (!there(r)) {
-            due("small(" + r + ")", ILLEGAL, () -> desk.small(r));
-            due("low(" + r + ")", ILLEGAL, () -> desk.low(r));
-            due("folded(" + r + ")", ILLEGAL, () -> desk.folded(r));
-            due("size(" + r + ")", ILLEGAL, () -> desk.size(r));
-            return;
+    private void askOne(int what, int r) {
+        BigInteger v = there(r) ? registers[r] : BigInteger.ZERO;
+        String small = v.bitLength() > 63 ? ARITHMETIC : v.toString();
+        switch (what) {
+            case 0 -> due("small(" + r + ")", there(r) ? small : ILLEGAL, d -> d.small(r));
+            case 1 -> due("low(" + r + ")", there(r) ? Long.toString(v.longValue()) : ILLEGAL, d -> d.low(r));
+            case 2 -> due("folded(" + r + ")", there(r) ? v.remainder(PRIME).toString() : ILLEGAL, d -> d.folded(r));
+            default -> due("size(" + r + ")", there(r) ? Integer.toString(bits(v)) : ILLEGAL, d -> d.size(r));
         }
-        BigInteger v = registers[r];
-        due("small(" + r + ")", v.bitLength() > 63 ? ARITHMETIC : v.toString(), () -> desk.small(r));
-        due("low(" + r + ")", Long.toString(v.longValue()), () -> desk.low(r));
-        due("folded(" + r + ")", v.remainder(PRIME).toString(), () -> desk.folded(r));
-        due("size(" + r + ")", Integer.toString(bits(v)), () -> desk.size(r));
     }
 }
