@@ -183,6 +183,7 @@ public final class LineTest {
     private static void reads(String text, int base, BigInteger want) {
         String name = "read of " + text + " in base " + base;
         typed(text).gives(name, Check.bits(want), d -> d.read(5, base)).holds(name, 5, want).lineIs("");
+        Run.used().type(text).gives(name, Check.bits(want), d -> d.read(5, base)).holds(name, 5, want).lineIs("");
     }
 
     private static void readsNumbers() {
@@ -239,7 +240,7 @@ public final class LineTest {
     }
 
     private static void refusesLine(String text, int base) {
-        Run run = new Run().put(5, big(-77)).type(text);
+        Run run = Run.used().put(5, big(-77)).type(text);
         run.refusesRead("read of " + text + " in base " + base, Check.ILLEGAL, d -> d.read(5, base));
     }
 
@@ -355,7 +356,7 @@ public final class LineTest {
     private static void shows(BigInteger v, int base) {
         String want = v.toString(base);
         String name = "show of " + v + " in base " + base;
-        Run run = new Run().put(3, v);
+        Run run = Run.used().put(3, v);
         String before = run.registers();
         run.gives(name, want.length(), d -> d.show(3, base)).lineIs(want);
         Check.due("the registers after " + name, run.registers(), before);

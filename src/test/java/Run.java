@@ -85,9 +85,25 @@ final class Run {
         return type(v.toString(36)).then(d -> d.read(r, 36));
     }
 
+    /**
+     * All registers are 0 and the line is empty, as in a new object: but each kind of call has been
+     * made before, with great numbers, and what it left over must not be met any more.
+     */
+    static Run used() {
+        Run run = new Run().then(d -> d.set(0, 1), d -> d.shift(1, 0, 2047), d -> d.work(1, 2, 1, 0), d -> d.work(0, 1, 1, 2),
+            d -> d.set(3, -7), d -> d.divide(false, 4, 5, 1, 3), d -> d.divide(true, 4, 5, 1, 3), d -> d.bits(2, 5, 4, 1),
+            d -> d.shift(5, 4, -1), d -> d.power(5, 1, 1), d -> d.show(4, 2), d -> d.read(5, 2), d -> d.residue(5, 2, 0, 4));
+        run.make(d -> d.work(2, 5, 1, 1));
+        for (int k = 0; k < 6; k++) {
+            int r = k;
+            run.then(d -> d.set(r, 0));
+        }
+        return run;
+    }
+
     /** A run with these in registers 1, 2 and so on, something else in all others, and a line. */
     static Run with(BigInteger... values) {
-        Run run = new Run();
+        Run run = used();
         for (int r = 0; r < 16; r++) {
             run.put(r, r > 0 && r <= values.length ? values[r - 1] : Check.big(1000 + r));
         }
